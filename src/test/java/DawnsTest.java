@@ -12,6 +12,7 @@ final class DawnsTest {
         Due.test("promise 19, fat", DawnsTest::fat);
         Due.test("promise 19, up to DAWN 9999", DawnsTest::lastDawns);
         Due.test("promise 20, loose", DawnsTest::loose);
+        Due.test("promise 20, loose up to DAWN 9999", DawnsTest::lastLoose);
         Due.test("promise 20, loose with cattle", DawnsTest::looseCattle);
         Due.test("promise 20, loose brings dawns", DawnsTest::looseDawns);
         Due.test("promise 21, seed", DawnsTest::seed);
@@ -63,6 +64,14 @@ final class DawnsTest {
     }
 
     private static void rim() {
+        corner(0, 8, 0);
+        corner(3, 1, 0);
+        corner(0, 15, 7);
+        corner(1, 6, 7);
+        corner(2, 48, 56);
+        corner(3, 57, 56);
+        corner(1, 62, 63);
+        corner(2, 55, 63);
         WalkFences x = new WalkFences();
         int[] last = {2, 23, 58, 16};
         int[] ahead = {10, 22, 50, 17};
@@ -76,6 +85,16 @@ final class DawnsTest {
                 Due.is(x.at(way, 0), last[way]);
             }
         }
+    }
+
+    private static void corner(int way, int from, int to) {
+        WalkFences x = new WalkFences();
+        x.fence(0, way);
+        x.post(0, from);
+        x.dawns(1);
+        Due.is(x.at(0, 0), to);
+        x.dawns(1);
+        Due.is(x.at(0, 0), to);
     }
 
     private static void rich() {
@@ -187,6 +206,17 @@ final class DawnsTest {
         Given.sheet(x, 0, 8, x.at(0, 0) - 1);
         Due.is(x.fits(0, 0), 1);
         Due.is(x.count(2), 9999);
+    }
+
+    private static void lastLoose() {
+        WalkFences x = new WalkFences();
+        Given.dawnIs(x, 9980);
+        Due.is(x.loose(20), Due.STATE);
+        Due.is(x.count(2), 9980);
+        Due.is(x.count(3), 0);
+        Due.is(x.loose(19) > 0 ? 1 : 0, 1);
+        Due.is(x.count(2), 9999);
+        Due.is(x.loose(1), Due.STATE);
     }
 
     private static int z = 0;

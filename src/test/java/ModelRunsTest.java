@@ -5,8 +5,6 @@ import java.util.List;
 
 /** Long runs of drawn calls, each answered by the class and by the model of the tests alike. */
 final class ModelRunsTest {
-    private static final int CALLS = 512;
-
     /** A call, how often it is drawn, and between what its numbers mostly lie. */
     private record Call(Method real, Method model, int often, int[] least, int[] most) {
     }

@@ -411,6 +411,7 @@ final class TellingTest {
         Given.tape(x, "666");
         x.tell(8);
         x.check();
+        x.tell(7);
         x.dawns(5);
         x.loose(1);
         Due.is(x.restore(), 2);

@@ -11,6 +11,8 @@ final class ThoughtTest {
         Due.test("promise 24, first by 60", ThoughtTest::firstBySixty);
         Due.test("promise 25, salts", ThoughtTest::salts);
         Due.test("promise 25, salts, two CELLS", ThoughtTest::saltsTwo);
+        Due.test("promise 25, salts, wherever", ThoughtTest::saltsAnywhere);
+        Due.test("promise 25, salts, by dawns", ThoughtTest::saltsByDawns);
         Due.test("promise 25, salts, beyond", ThoughtTest::saltsBeyond);
         Due.test("promise 26, way", ThoughtTest::way);
         Due.test("promise 26, way behind posts", ThoughtTest::wayBehindPosts);
@@ -202,6 +204,61 @@ final class ThoughtTest {
         Due.is(w.salts(0, 28, 1, -1), Due.NONE);
         Due.is(w.salts(0, 28, 1, 1), Due.NONE);
         Due.is(w.told(2), 2);
+    }
+
+    /** A new object with a FENCE that has these POSTS. */
+    private static WalkFences posted(int km, int heading, int... cells) {
+        WalkFences x = new WalkFences();
+        x.fence(km, heading);
+        for (int cell : cells) {
+            x.post(0, cell);
+        }
+        return x;
+    }
+
+    private static void areSalts(WalkFences x, int cell, int n, int... due) {
+        Due.is(x.salts(0, cell, n, -1), due.length);
+        Due.is(x.salts(0, cell, n, 0), due.length > 0 ? due[0] : -1);
+        Due.is(x.salts(0, cell, n, 1), due.length > 1 ? due[1] : -1);
+    }
+
+    private static void saltsAnywhere() {
+        // CELL 0, alone and with another.
+        areSalts(posted(0, 3, 1, 9, 11, 18), 9, 1, 0);
+        areSalts(posted(0, 3, 1, 9, 11, 17), 9, 1, 0, 16);
+        // The last CELL.
+        areSalts(posted(0, 1, 62, 45, 52, 54), 54, 1, 63);
+        // Two beside one another, ahead of another set with the first of them, 20 and 29.
+        areSalts(posted(0, 1, 19, 20, 25, 28, 34, 35), 27, 1, 20, 21);
+        // SALT there is already counts for none.
+        WalkFences x = posted(0, 1, 20, 26, 28, 36);
+        x.lay(0, 21, 1);
+        areSalts(x, 28, 1, 37);
+        // WATER holds those that do not go OVER it.
+        WalkFences y = posted(10, 1, 20, 26, 28, 36);
+        y.lay(1, 37, 1);
+        areSalts(y, 28, 1, 21);
+        y.become(0, 0);
+        areSalts(y, 28, 1, 21, 37);
+    }
+
+    private static void saltsByDawns() {
+        for (int dawn = 0; dawn < 6; dawn++) {
+            // A TURNER that at this DAWN goes right, at the next one down.
+            int heading = Math.floorMod(1 - dawn, 4);
+            WalkFences x = posted(60, heading, 19, 26, 28, 35);
+            Given.dawnIs(x, dawn);
+            x.become(0, 30);
+            areSalts(x, 28, 1);
+            areSalts(x, 36, 2);
+            Due.is(x.salts(0, 20, 2, -1), Due.NONE);
+            // CELL 28 stays, by the SALT there is, then goes down to 36, unless SALT comes there.
+            WalkFences y = posted(60, heading, 28, 17, 26, 10);
+            y.lay(0, 29, 1);
+            Given.dawnIs(y, dawn);
+            y.become(0, 30);
+            areSalts(y, 27, 2, 36);
+        }
     }
 
     private static void saltsBeyond() {
