@@ -14,6 +14,7 @@ final class DawnsTest {
         Due.test("promise 20, loose", DawnsTest::loose);
         Due.test("promise 20, loose up to DAWN 9999", DawnsTest::lastLoose);
         Due.test("promise 20, loose with cattle", DawnsTest::looseCattle);
+        Due.test("promise 20, loose at the corners", DawnsTest::looseCorners);
         Due.test("promise 20, loose brings dawns", DawnsTest::looseDawns);
         Due.test("promise 21, seed", DawnsTest::seed);
     }
@@ -280,6 +281,28 @@ final class DawnsTest {
             Due.is(x.cowIs(i, 0), cells[i]);
         }
         Due.is(x.count(8), z);
+    }
+
+    private static void looseCorners() {
+        WalkFences x = new WalkFences();
+        x.cow(0);
+        x.seed(7919);
+        z = 7919;
+        int came = 0;
+        for (int times = 0; times < 160; times++) {
+            int[] ahead = {8, 1, 6, 15, 48, 57, 55, 62};
+            int from = ahead[times % 8];
+            x.drive(0, from);
+            draw();
+            draw();
+            int to = from + new int[] {-8, 1, 8, -1}[draw() % 4];
+            boolean beyond = to < 0 || to > 63 || to % 8 == 0 && from % 8 == 7 || to % 8 == 7 && from % 8 == 0;
+            x.loose(1);
+            Due.is(x.cowIs(0, 0), beyond ? from : to);
+            came |= beyond ? 16 : to == 0 ? 1 : to == 7 ? 2 : to == 56 ? 4 : to == 63 ? 8 : 0;
+        }
+        // Each corner was come to, and the rim held some.
+        Due.is(came, 31);
     }
 
     private static void looseDawns() {

@@ -422,6 +422,16 @@ final class ThoughtTest {
         Due.is(x.fits(2, 0), 6);
         Given.sheet(x, 2, 32, 8, 16);
         Due.is(x.fits(2, 0), Due.NONE);
+        // All 8, and none of those that were cut off.
+        WalkFences y = new WalkFences();
+        Given.ring(y, 0, 1, 18);
+        Given.sheet(y, 0, 8, 10, 11, 12, 18, 20, 26, 27, 28);
+        Due.is(y.fits(0, 0), 1);
+        y.cut(0);
+        Given.sheet(y, 0, 8, 10, 11, 12, 18, 20, 26, 27);
+        Due.is(y.fits(0, 0), 1);
+        y.put(0, 6, 28);
+        Due.is(y.fits(0, 0), Due.NONE);
         // Its lowest bits: 265 is 9 in 8 bits.
         Given.sheet(x, 3, 8, 265, 273);
         Due.is(x.fits(3, 0), 0);
