@@ -380,11 +380,9 @@ public final class WalkFences {
             return error(BEYOND);
         }
         Fence it = now.fences[fence];
-        // Ahead of the first BODY, as an act that answers an ERROR leaves THE TRACE as it was.
-        if (voice == Voices.PARTS && it.m == fence) {
-            return error(PARTED);
-        }
-        return voices.answer(voice, it.kind, it.m, fence, x);
+        int answer = voices.answer(voice, it.kind, it.m, fence, x);
+        // THE TRACE is of this voice() even so: its BODIES began.
+        return voices.parted ? error(PARTED) : answer;
     }
 
     public int body(int i) {
@@ -1104,12 +1102,16 @@ public final class WalkFences {
 
         final int[] bodies = new int[MOST_BODIES];
         int begun;
+
+        /** Whether the latest VOICE came to a BODY that would part by 0; no BODY begins behind that one. */
+        boolean parted;
         private int kind;
         private int m;
         private int k;
 
         int answer(int voice, int itsKind, int itsM, int itsNumber, int x) {
             begun = 0;
+            parted = false;
             kind = itsKind;
             m = itsM;
             k = itsNumber;
@@ -1182,10 +1184,13 @@ public final class WalkFences {
             switch (from) {
                 case NORTHERN: case POLAR:
                     begins(21);
-                    return parts(FENCE, x) + leans(kind, 1);
+                    int left = parts(FENCE, x);
+                    return parted ? 0 : left + leans(kind, 1);
                 default:
                     begins(13);
-                    return m == k ? 0 : x / (m - k);
+                    int by = m - k;
+                    parted = by == 0;
+                    return by == 0 ? 0 : x / by;
             }
         }
     }

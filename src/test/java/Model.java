@@ -818,10 +818,9 @@ final class Model {
             return wrong(Due.BEYOND);
         }
         Speaker it = speaker(world.pens.get(fence).kind, fence, world.pens.get(fence).m);
+        trace = it.begun;
         try {
-            int answer = voice == 0 ? it.sings(x) : voice == 1 ? it.leans(x) : voice == 2 ? it.sprouts(x) : it.parts(x);
-            trace = it.begun;
-            return answer;
+            return voice == 0 ? it.sings(x) : voice == 1 ? it.leans(x) : voice == 2 ? it.sprouts(x) : it.parts(x);
         } catch (ArithmeticException parted) {
             return wrong(Due.PARTED);
         }

@@ -12,7 +12,8 @@ final class TellingTest {
         Due.test("promise 29, parted", TellingTest::parted);
         Due.test("promise 29, voices wrap", TellingTest::voicesWrap);
         Due.test("promise 30, body", TellingTest::body);
-        Due.test("promise 30, the trace behind errors", TellingTest::traceStays);
+        Due.test("promise 30, the trace behind BEYOND", TellingTest::traceStays);
+        Due.test("promise 30, the trace of a parted voice", TellingTest::traceOfParted);
         Due.test("promise 31, sheet", TellingTest::sheet);
         Due.test("promise 32, put", TellingTest::put);
         Due.test("promise 32, lowest bits", TellingTest::lowestBits);
@@ -163,10 +164,56 @@ final class TellingTest {
         x.voice(0, 0, 1);
         Due.is(x.voice(0, 4, 1), Due.BEYOND);
         Due.is(x.voice(1, 0, 1), Due.BEYOND);
+        isTrace(x, 20, 10);
+        // No BODY of these began, so THE TRACE of a PARTED voice() stays, too.
         Due.is(x.voice(0, 3, 1), Due.PARTED);
-        Due.is(x.count(7), 2);
-        Due.is(x.body(0), 20);
-        Due.is(x.body(1), 10);
+        Due.is(x.voice(0, -1, 1), Due.BEYOND);
+        Due.is(x.voice(-1, 3, 1), Due.BEYOND);
+        isTrace(x, 21, 13);
+    }
+
+    private static void isTrace(WalkFences x, int... bodies) {
+        Due.is(x.count(7), bodies.length);
+        for (int i = 0; i < bodies.length; i++) {
+            Due.is(x.body(i), bodies[i]);
+        }
+        Due.is(x.body(bodies.length), Due.NONE);
+    }
+
+    private static void traceOfParted() {
+        int[][] due = {{13}, {21, 13}, {13}, {13}, {21, 13}, {13}, {13}};
+        for (int kind = 0; kind < due.length; kind++) {
+            WalkFences x = new WalkFences();
+            x.fence(10 * kind, 0);
+            x.fence(10 * kind + 1, 0);
+            // As the first voice(), behind a longer one, and of any x.
+            Due.is(x.voice(0, 3, 7), Due.PARTED);
+            isTrace(x, due[kind]);
+            x.voice(1, 2, 7);
+            Due.is(x.voice(1, 3, 0), Due.PARTED);
+            isTrace(x, due[kind]);
+            Due.is(x.told(6), 2);
+            // An IMAGE does not keep it, and the next voice() begins anew and is not PARTED.
+            x.image();
+            x.restore();
+            isTrace(x, due[kind]);
+            x.become(0, 10 * kind + 4);
+            if (kind != 1 && kind != 4) {
+                Due.is(x.voice(0, 3, 8), 2);
+                isTrace(x, 13);
+            }
+            x.become(0, 0);
+            Due.is(x.voice(0, 1, 8), 16);
+            isTrace(x, 11, 10);
+            Due.is(x.told(6), 2);
+        }
+        // Behind a PARTED one, both sides of the sum are worked out again.
+        WalkFences y = new WalkFences();
+        y.fence(10, 0);
+        Due.is(y.voice(0, 3, 8), Due.PARTED);
+        y.become(0, 14);
+        Due.is(y.voice(0, 3, 8), 2 + (1 - 4) * 2);
+        isTrace(y, 21, 13, 11, 20, 10);
     }
 
     private static void sheet() {
