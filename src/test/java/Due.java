@@ -44,6 +44,18 @@ final class Due {
         }
     }
 
+    /** Each of these calls is due the same answer. */
+    static void each(long want, long... got) {
+        for (int i = 0; i < got.length; i++) {
+            if (got[i] != want) {
+                right = false;
+                StackTraceElement caller = new Throwable().getStackTrace()[1];
+                System.out.println("  " + caller.getFileName() + ":" + caller.getLineNumber() + ", number " + i
+                        + " of the row, answered " + got[i] + ", due is " + want);
+            }
+        }
+    }
+
     static void fail(String why) {
         right = false;
         System.out.println("  " + why);

@@ -114,24 +114,9 @@ final class ThoughtTest {
         Due.is(x.fence(0, 0), Due.FULL);
     }
 
-    /**
-     * A TURNER (m 9) whose first POST stands in CELL 0 and goes inwards in a spiral: from a DAWN x (0 .. 9)
-     * on it stays for 10 - x moves, then goes right, down, left, up, right for 10 moves each, held by the rim
-     * and by SALT, and is in CELL 20 when it turns down at the move 61 - x.
-     */
-    private static WalkFences spiral(int dawn) {
-        WalkFences x = new WalkFences();
-        Given.dawnIs(x, dawn);
-        x.fence(39, 0);
-        x.post(0, 0);
-        x.lay(0, 8, 1);
-        x.lay(0, 21, 1);
-        return x;
-    }
-
     private static void firstBySixty() {
         for (int dawn = 0; dawn < 4; dawn++) {
-            WalkFences x = spiral(dawn);
+            WalkFences x = Given.spiral(dawn);
             // Three more POSTS, which SALT holds for ever, wait for the fourth to come above 36.
             for (int cell : new int[] {35, 37, 44}) {
                 x.post(0, cell);
@@ -206,16 +191,6 @@ final class ThoughtTest {
         Due.is(w.told(2), 2);
     }
 
-    /** A new object with a FENCE that has these POSTS. */
-    private static WalkFences posted(int km, int heading, int... cells) {
-        WalkFences x = new WalkFences();
-        x.fence(km, heading);
-        for (int cell : cells) {
-            x.post(0, cell);
-        }
-        return x;
-    }
-
     private static void areSalts(WalkFences x, int cell, int n, int... due) {
         Due.is(x.salts(0, cell, n, -1), due.length);
         Due.is(x.salts(0, cell, n, 0), due.length > 0 ? due[0] : -1);
@@ -224,18 +199,18 @@ final class ThoughtTest {
 
     private static void saltsAnywhere() {
         // CELL 0, alone and with another.
-        areSalts(posted(0, 3, 1, 9, 11, 18), 9, 1, 0);
-        areSalts(posted(0, 3, 1, 9, 11, 17), 9, 1, 0, 16);
+        areSalts(Given.walking(0, 3, 1, 9, 11, 18), 9, 1, 0);
+        areSalts(Given.walking(0, 3, 1, 9, 11, 17), 9, 1, 0, 16);
         // The last CELL.
-        areSalts(posted(0, 1, 62, 45, 52, 54), 54, 1, 63);
+        areSalts(Given.walking(0, 1, 62, 45, 52, 54), 54, 1, 63);
         // Two beside one another, ahead of another set with the first of them, 20 and 29.
-        areSalts(posted(0, 1, 19, 20, 25, 28, 34, 35), 27, 1, 20, 21);
+        areSalts(Given.walking(0, 1, 19, 20, 25, 28, 34, 35), 27, 1, 20, 21);
         // SALT there is already counts for none.
-        WalkFences x = posted(0, 1, 20, 26, 28, 36);
+        WalkFences x = Given.walking(0, 1, 20, 26, 28, 36);
         x.lay(0, 21, 1);
         areSalts(x, 28, 1, 37);
         // WATER holds those that do not go OVER it.
-        WalkFences y = posted(10, 1, 20, 26, 28, 36);
+        WalkFences y = Given.walking(10, 1, 20, 26, 28, 36);
         y.lay(1, 37, 1);
         areSalts(y, 28, 1, 21);
         y.become(0, 0);
@@ -246,14 +221,14 @@ final class ThoughtTest {
         for (int dawn = 0; dawn < 6; dawn++) {
             // A TURNER that at this DAWN goes right, at the next one down.
             int heading = Math.floorMod(1 - dawn, 4);
-            WalkFences x = posted(60, heading, 19, 26, 28, 35);
+            WalkFences x = Given.walking(60, heading, 19, 26, 28, 35);
             Given.dawnIs(x, dawn);
             x.become(0, 30);
             areSalts(x, 28, 1);
             areSalts(x, 36, 2);
             Due.is(x.salts(0, 20, 2, -1), Due.NONE);
             // CELL 28 stays, by the SALT there is, then goes down to 36, unless SALT comes there.
-            WalkFences y = posted(60, heading, 28, 17, 26, 10);
+            WalkFences y = Given.walking(60, heading, 28, 17, 26, 10);
             y.lay(0, 29, 1);
             Given.dawnIs(y, dawn);
             y.become(0, 30);
@@ -339,22 +314,7 @@ final class ThoughtTest {
 
     private static void wayBySixty() {
         for (int dawn = 2; dawn < 6; dawn++) {
-            WalkFences x = new WalkFences();
-            Given.dawnIs(x, dawn);
-            // Three walls make one long way to and fro from CELL 0 to CELL 48 ..
-            for (int wall = 0; wall < 3; wall++) {
-                x.fence(60, 0);
-                for (int place = 0; place < 7; place++) {
-                    x.post(wall, 8 + 16 * wall + place + wall % 2);
-                }
-            }
-            // .. and a gate at its begin first goes down, into a wall, by the DAWN 30.
-            x.fence(39, 3);
-            x.post(3, 1);
-            for (int cell : new int[] {0, 2, 8, 10, 17}) {
-                x.lay(0, cell, 1);
-            }
-            x.cow(0);
+            WalkFences x = Given.longWay(dawn);
             Due.is(x.way(0, 1), 31 - dawn);
             Due.is(x.way(0, 49), 63 - dawn > 60 ? Due.NONE : 63 - dawn);
             Due.is(x.way(0, 48), 64 - dawn > 60 ? Due.NONE : 64 - dawn);
@@ -441,7 +401,7 @@ final class ThoughtTest {
 
     private static void fitsBySixty() {
         for (int dawn = 2; dawn < 5; dawn++) {
-            WalkFences x = spiral(dawn);
+            WalkFences x = Given.spiral(dawn);
             Given.sheet(x, 0, 8, 44);
             Due.is(x.fits(0, 0), dawn == 2 ? Due.NONE : 63 - dawn);
         }
