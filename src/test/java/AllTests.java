@@ -1,9 +1,12 @@
 /** Runs every test of the project; the arguments name the source of the class, and the document. */
 public final class AllTests {
+    private static final long MOST_MILLIS = 600_000;
+
     private AllTests() {
     }
 
     public static void main(String[] args) throws java.io.IOException {
+        watch();
         FencesTest.all();
         TextsTest.all();
         DawnsTest.all();
@@ -23,5 +26,20 @@ public final class AllTests {
         if (!Due.allPassed()) {
             System.exit(1);
         }
+    }
+
+    /** A call that doesn't end fails the run, as any other fault does. */
+    private static void watch() {
+        Thread watcher = new Thread(() -> {
+            try {
+                Thread.sleep(MOST_MILLIS);
+            } catch (InterruptedException woken) {
+                return;
+            }
+            System.out.println("FAILED: " + Due.running() + " does not end");
+            Runtime.getRuntime().halt(1);
+        });
+        watcher.setDaemon(true);
+        watcher.start();
     }
 }

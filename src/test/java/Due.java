@@ -14,12 +14,14 @@ final class Due {
     private static int passed = 0;
     private static int failed = 0;
     private static boolean right = true;
+    private static volatile String running = "";
 
     private Due() {
     }
 
     static void test(String name, Test test) {
         right = true;
+        running = name;
         try {
             test.run();
         } catch (RuntimeException | StackOverflowError thrown) {
@@ -59,6 +61,11 @@ final class Due {
     static void fail(String why) {
         right = false;
         System.out.println("  " + why);
+    }
+
+    /** Which test runs, or ran last. */
+    static String running() {
+        return running;
     }
 
     /** Prints the sum, and tells whether every test passed. */

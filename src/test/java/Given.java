@@ -126,8 +126,8 @@ final class Given {
     }
 
     static void dawnIs(WalkFences x, int dawn) {
-        while (x.count(2) < dawn) {
-            x.dawns(Math.min(60, dawn - x.count(2)));
+        for (int left = dawn - x.count(2); left > 0; left -= 60) {
+            x.dawns(Math.min(60, left));
         }
     }
 

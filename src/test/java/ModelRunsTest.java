@@ -169,7 +169,7 @@ final class ModelRunsTest {
                 furnish();
             }
             if (run % 10 == 1) {
-                while (real.count(2) < 9900) {
+                for (int i = 0; i < 9900 / 60; i++) {
                     real.dawns(60);
                     model.dawns(60);
                 }

@@ -6,7 +6,9 @@ final class RefusedBounds {
     private static final String SENTENCE = "Each act tells its ERRORS in the order in which they are asked; one that answers an ERROR "
             + "changes nothing but what told() tells, or where told.";
 
-    interface Call {
+    private static final List<String> ERRORS = List.of("BEYOND", "NONE", "STATE", "FULL", "KIND", "PARTED");
+
+    private interface Call {
         long of(WalkFences x);
     }
 
@@ -22,93 +24,94 @@ final class RefusedBounds {
     }
 
     private static void fencesAndCattle() {
-        refused("fence", Due.BEYOND, x -> x.fence(70, 0));
-        refused("fence", Due.BEYOND, x -> x.fence(0, 4));
-        refused("fence", Due.FULL, x -> x.fence(0, 0));
-        refused("post", Due.BEYOND, x -> x.post(4, 0));
-        refused("post", Due.BEYOND, x -> x.post(0, 64));
-        refused("post", Due.FULL, x -> x.post(0, 0));
-        refused("fenceIs", Due.BEYOND, x -> x.fenceIs(0, 7));
-        refused("at", Due.BEYOND, x -> x.at(1, 4));
-        refused("heads", Due.BEYOND, x -> x.heads(1, 4));
-        refused("become", Due.BEYOND, x -> x.become(0, 70));
-        refused("become", Due.BEYOND, x -> x.become(4, 0));
-        refused("as", Due.BEYOND, x -> x.as(0, 7));
-        refused("as", Due.KIND, x -> x.as(0, 6));
-        refused("turn", Due.BEYOND, x -> x.turn(0, 4));
-        refused("turn", Due.BEYOND, x -> x.turn(4, 0));
-        refused("cut", Due.BEYOND, x -> x.cut(4));
-        refused("cut", Due.STATE, x -> x.cut(2));
-        refused("lay", Due.BEYOND, x -> x.lay(2, 0, 1));
-        refused("lay", Due.BEYOND, x -> x.lay(0, 64, 1));
-        refused("lay", Due.BEYOND, x -> x.lay(0, 0, 2));
-        refused("cow", Due.BEYOND, x -> x.cow(64));
-        refused("cow", Due.FULL, x -> x.cow(0));
-        refused("cowIs", Due.BEYOND, x -> x.cowIs(0, 3));
-        refused("drive", Due.BEYOND, x -> x.drive(0, 64));
-        refused("drive", Due.BEYOND, x -> x.drive(6, 0));
+        refused("fence(70, 0)", "BEYOND", x -> x.fence(70, 0));
+        refused("fence(0, 4)", "BEYOND", x -> x.fence(0, 4));
+        refused("fence(0, 0)", "FULL", x -> x.fence(0, 0));
+        refused("post(4, 0)", "BEYOND", x -> x.post(4, 0));
+        refused("post(0, 64)", "BEYOND", x -> x.post(0, 64));
+        refused("post(0, 0)", "FULL", x -> x.post(0, 0));
+        refused("fenceIs(0, 7)", "BEYOND", x -> x.fenceIs(0, 7));
+        refused("at(1, 4)", "BEYOND", x -> x.at(1, 4));
+        refused("heads(1, 4)", "BEYOND", x -> x.heads(1, 4));
+        refused("become(0, 70)", "BEYOND", x -> x.become(0, 70));
+        refused("become(4, 0)", "BEYOND", x -> x.become(4, 0));
+        refused("as(0, 7)", "BEYOND", x -> x.as(0, 7));
+        refused("as(0, 6)", "KIND", x -> x.as(0, 6));
+        refused("turn(0, 4)", "BEYOND", x -> x.turn(0, 4));
+        refused("turn(4, 0)", "BEYOND", x -> x.turn(4, 0));
+        refused("cut(4)", "BEYOND", x -> x.cut(4));
+        refused("cut(2)", "STATE", x -> x.cut(2));
+        refused("lay(2, 0, 1)", "BEYOND", x -> x.lay(2, 0, 1));
+        refused("lay(0, 64, 1)", "BEYOND", x -> x.lay(0, 64, 1));
+        refused("lay(0, 0, 2)", "BEYOND", x -> x.lay(0, 0, 2));
+        refused("cow(64)", "BEYOND", x -> x.cow(64));
+        refused("cow(0)", "FULL", x -> x.cow(0));
+        refused("cowIs(0, 3)", "BEYOND", x -> x.cowIs(0, 3));
+        refused("drive(0, 64)", "BEYOND", x -> x.drive(0, 64));
+        refused("drive(6, 0)", "BEYOND", x -> x.drive(6, 0));
     }
 
     private static void textsAndDawns() {
-        refused("feed", Due.BEYOND, x -> x.feed('1', 9));
-        refused("feed", Due.BEYOND, x -> x.feed('1', 0));
-        refused("feed", Due.FULL, x -> x.feed('1', 8));
-        refused("text", Due.BEYOND, x -> x.text(2));
-        refused("untell", Due.BEYOND, x -> x.untell(2));
-        refused("law", Due.BEYOND, x -> x.law(2, 0, 0, 0));
-        refused("dawns", Due.BEYOND, x -> x.dawns(61));
-        refused("dawns", Due.BEYOND, x -> x.dawns(0));
-        refused("loose", Due.BEYOND, x -> x.loose(21));
-        refused("loose", Due.BEYOND, x -> x.loose(0));
+        refused("feed('1', 9)", "BEYOND", x -> x.feed('1', 9));
+        refused("feed('1', 0)", "BEYOND", x -> x.feed('1', 0));
+        refused("feed('1', 8)", "FULL", x -> x.feed('1', 8));
+        refused("text(2)", "BEYOND", x -> x.text(2));
+        refused("untell(2)", "BEYOND", x -> x.untell(2));
+        refused("law(2, 0, 0, 0)", "BEYOND", x -> x.law(2, 0, 0, 0));
+        refused("dawns(61)", "BEYOND", x -> x.dawns(61));
+        refused("dawns(0)", "BEYOND", x -> x.dawns(0));
+        refused("loose(21)", "BEYOND", x -> x.loose(21));
+        refused("loose(0)", "BEYOND", x -> x.loose(0));
     }
 
     private static void thought() {
-        refused("land", Due.BEYOND, x -> x.land(0, 2));
-        refused("then", Due.BEYOND, x -> x.then(0, 61, 0));
-        refused("first", Due.BEYOND, x -> x.first(64, 0));
-        refused("first", Due.NONE, x -> x.first(0, 0));
-        refused("salts", Due.BEYOND, x -> x.salts(0, 64, 0, -1));
-        refused("salts", Due.NONE, x -> x.salts(1, 0, 6, -1));
-        refused("way", Due.BEYOND, x -> x.way(6, 0));
-        refused("way", Due.NONE, x -> x.way(0, 0));
-        refused("odds", Due.BEYOND, x -> x.odds(2));
-        refused("fits", Due.BEYOND, x -> x.fits(0, 4));
-        refused("fits", Due.NONE, x -> x.fits(3, 0));
-        refused("fits", Due.NONE, x -> x.fits(0, 1));
+        refused("land(0, 2)", "BEYOND", x -> x.land(0, 2));
+        refused("then(0, 61, 0)", "BEYOND", x -> x.then(0, 61, 0));
+        refused("first(64, 0)", "BEYOND", x -> x.first(64, 0));
+        refused("first(0, 0)", "NONE", x -> x.first(0, 0));
+        refused("salts(0, 64, 0, -1)", "BEYOND", x -> x.salts(0, 64, 0, -1));
+        refused("salts(1, 0, 6, -1)", "NONE", x -> x.salts(1, 0, 6, -1));
+        refused("way(6, 0)", "BEYOND", x -> x.way(6, 0));
+        refused("way(0, 0)", "NONE", x -> x.way(0, 0));
+        refused("odds(2)", "BEYOND", x -> x.odds(2));
+        refused("fits(0, 4)", "BEYOND", x -> x.fits(0, 4));
+        refused("fits(3, 0)", "NONE", x -> x.fits(3, 0));
+        refused("fits(0, 1)", "NONE", x -> x.fits(0, 1));
     }
 
     private static void telling() {
-        refused("voice", Due.BEYOND, x -> x.voice(0, 4, 0));
-        refused("voice", Due.BEYOND, x -> x.voice(4, 3, 0));
-        refused("body", Due.NONE, x -> x.body(30));
-        refused("sheet", Due.BEYOND, x -> x.sheet(4, 8, 1));
-        refused("sheet", Due.BEYOND, x -> x.sheet(0, 9, 1));
-        refused("sheet", Due.STATE, x -> x.sheet(0, 16, -1));
-        refused("sheet", Due.BEYOND, x -> x.sheet(0, 16, 25));
-        refused("put", Due.BEYOND, x -> x.put(4, 0, 1));
-        refused("put", Due.NONE, x -> x.put(3, 0, 1));
-        refused("put", Due.BEYOND, x -> x.put(0, 5, 1));
-        refused("move", Due.BEYOND, x -> x.move(0, 0, 4, 0, 1));
-        refused("move", Due.NONE, x -> x.move(0, 0, 3, 0, 1));
-        refused("move", Due.KIND, x -> x.move(0, 0, 1, 0, 1));
-        refused("move", Due.BEYOND, x -> x.move(0, 0, 2, 0, 3));
-        refused("sets", Due.BEYOND, x -> x.sets(0, 4));
-        refused("sets", Due.NONE, x -> x.sets(0, 3));
-        refused("judge", Due.BEYOND, x -> x.judge(4));
-        refused("judge", Due.NONE, x -> x.judge(3));
-        refused("tell", Due.FULL, x -> x.tell(1));
-        refused("count", Due.BEYOND, x -> x.count(9));
-        refused("told", Due.BEYOND, x -> x.told(7));
+        refused("voice(0, 4, 0)", "BEYOND", x -> x.voice(0, 4, 0));
+        refused("voice(4, 3, 0)", "BEYOND", x -> x.voice(4, 3, 0));
+        refused("body(30)", "NONE", x -> x.body(30));
+        refused("sheet(4, 8, 1)", "BEYOND", x -> x.sheet(4, 8, 1));
+        refused("sheet(0, 9, 1)", "BEYOND", x -> x.sheet(0, 9, 1));
+        refused("sheet(0, 16, -1)", "STATE", x -> x.sheet(0, 16, -1));
+        refused("sheet(0, 16, 25)", "BEYOND", x -> x.sheet(0, 16, 25));
+        refused("put(4, 0, 1)", "BEYOND", x -> x.put(4, 0, 1));
+        refused("put(3, 0, 1)", "NONE", x -> x.put(3, 0, 1));
+        refused("put(0, 5, 1)", "BEYOND", x -> x.put(0, 5, 1));
+        refused("move(0, 0, 4, 0, 1)", "BEYOND", x -> x.move(0, 0, 4, 0, 1));
+        refused("move(0, 0, 3, 0, 1)", "NONE", x -> x.move(0, 0, 3, 0, 1));
+        refused("move(0, 0, 1, 0, 1)", "KIND", x -> x.move(0, 0, 1, 0, 1));
+        refused("move(0, 0, 2, 0, 3)", "BEYOND", x -> x.move(0, 0, 2, 0, 3));
+        refused("sets(0, 4)", "BEYOND", x -> x.sets(0, 4));
+        refused("sets(0, 3)", "NONE", x -> x.sets(0, 3));
+        refused("judge(4)", "BEYOND", x -> x.judge(4));
+        refused("judge(3)", "NONE", x -> x.judge(3));
+        refused("tell(1)", "FULL", x -> x.tell(1));
+        refused("count(9)", "BEYOND", x -> x.count(9));
+        refused("told(7)", "BEYOND", x -> x.told(7));
     }
 
-    private static void refused(String act, int error, Call call) {
-        Sentence.holds("Terms", SENTENCE, act + " that answers " + error, () -> {
+    private static void refused(String written, String error, Call call) {
+        Sentence.holds("Terms", SENTENCE, written + " that answers " + error, () -> {
+            int number = ERRORS.indexOf(error) + 1;
             WalkFences x = furnished();
             int[] ahead = told(x);
-            Due.is(call.of(x), error);
+            Due.is(call.of(x), -1000000000 - number);
             int[] behind = told(x);
             for (int k = 1; k <= 6; k++) {
-                Due.is(behind[k], ahead[k] + (error == -1000000000 - k ? 1 : 0));
+                Due.is(behind[k], ahead[k] + (k == number ? 1 : 0));
             }
             isAsAhead(x, furnished());
         });
@@ -124,7 +127,7 @@ final class RefusedBounds {
 
     /** Those that want another object than furnished(), or change more than what told() tells. */
     private static void others() {
-        Sentence.holds("Terms", SENTENCE, "voice that answers " + Due.PARTED + ": but THE TRACE, as its own sentence tells", () -> {
+        Sentence.holds("Terms", SENTENCE, "voice that answers PARTED: but THE TRACE, as its own sentence tells", () -> {
             WalkFences x = furnished();
             // The m of FENCE 1 is 1.
             Due.is(x.voice(1, 3, 5), Due.PARTED);
@@ -137,7 +140,7 @@ final class RefusedBounds {
             twin.voice(0, 2, 5);
             isAsAhead(x, twin);
         });
-        Sentence.holds("Terms", SENTENCE, "restore that answers " + Due.NONE, () -> {
+        Sentence.holds("Terms", SENTENCE, "restore() that answers NONE", () -> {
             WalkFences x = Given.walking(31, 1, 9, 10);
             x.cow(5);
             x.tell(5);
@@ -145,7 +148,7 @@ final class RefusedBounds {
             Due.each(1, x.count(0), x.count(1), x.count(6), x.count(8), x.told(2), x.fenceIs(0, 1), x.fenceIs(0, 2));
             Due.is(x.land(0, 0), Given.bits(9, 10));
         });
-        Sentence.holds("Terms", SENTENCE, "dawns and loose that answer " + Due.STATE, () -> {
+        Sentence.holds("Terms", SENTENCE, "dawns and loose that answer STATE", () -> {
             WalkFences x = Given.walking(0, 1, 9);
             x.cow(27);
             Given.text(x, 1, "1");

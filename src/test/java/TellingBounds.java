@@ -394,6 +394,10 @@ final class TellingBounds {
             Given.sheet(x, 2, 8, -1, -1, -1, -1, -1, -1, -1, -1);
             Due.is(x.judge(0), 2);
             Due.each(6, x.judge(1), x.judge(2));
+            // No number is right by being 0 where there is none.
+            Given.diamond(x, 60, 0, 9);
+            x.drive(2, 9);
+            Due.is(x.judge(0), 2);
         });
         Sentence.holds("promise 35", sentence, "the first is wrong, one between, the last", () -> {
             WalkFences x = Given.cattle(0, 0, 0);
@@ -465,8 +469,10 @@ final class TellingBounds {
             x.lay(0, 1, 0);
             x.lay(1, 1, 0);
             x.text(0);
-            x.untell(1);
+            Given.text(x, 1, "3");
+            Given.tape(x, "3");
             x.check();
+            x.tell(3);
             x.seed(0);
             x.dawns(2);
             Due.is(x.restore(), 3);
@@ -513,11 +519,12 @@ final class TellingBounds {
         Given.text(x, 0, "900+a+p+k");
         Given.text(x, 1, "c=63|7");
         Given.tape(x, "7+7+7+7+7+7+7+7+7+7+7+7+7+7+7+7+7+7+7+7+7+7+7+7+7+7+7+7+7+77");
-        for (int i = 0; i < 24; i++) {
-            x.tell(i);
-        }
         x.seed(-7);
         x.dawns(3);
+        // The first four are right, and the fifth has no FENCE.
+        for (int i = 0; i < 24; i++) {
+            x.tell(i < 4 ? x.fenceIs(i, 4) : 0);
+        }
         return x;
     }
 
@@ -538,7 +545,7 @@ final class TellingBounds {
         Due.each(1, x.lay(0, 1, 1), x.lay(1, 1, 1), x.law(1, 63, 0, 0));
         Due.is(x.text(0), 1);
         Due.is(x.law(0, 0, 0, 0), 29 * 7 + 77);
-        Due.is(x.check(), y.check());
+        Due.is(x.check(), 5);
     }
 
     private static void restore() {

@@ -23,7 +23,6 @@ final class TellingTest {
         Due.test("promise 35, judge", TellingTest::judge);
         Due.test("promise 36, image", TellingTest::image);
         Due.test("promise 37, restore", TellingTest::restore);
-        Due.test("promise 37, what an image does not keep", TellingTest::notKept);
         Due.test("promise 38, tell", TellingTest::tell);
         Due.test("promise 39, check", TellingTest::check);
         Due.test("promise 40, count", TellingTest::count);
@@ -494,25 +493,6 @@ final class TellingTest {
         Due.is(x.fenceIs(0, 3), 4);
         Due.is(x.law(0, 0, 0, 0), 2);
         Due.is(x.count(6), 1);
-    }
-
-    private static void notKept() {
-        WalkFences x = new WalkFences();
-        x.fence(1, 0);
-        Given.sheet(x, 0, 8, 5);
-        x.voice(0, 0, 1);
-        x.image();
-        Given.sheet(x, 0, 8, 6, 7);
-        x.sheet(1, 8, 1);
-        x.voice(0, 1, 1);
-        x.body(9);
-        x.restore();
-        isRow(x, 0, 6, 7);
-        Due.is(x.put(1, 0, 0), 1);
-        Due.is(x.count(7), 2);
-        Due.is(x.body(0), 11);
-        Due.is(x.told(2), 1);
-        Due.is(x.image(), 2);
     }
 
     private static void tell() {

@@ -590,6 +590,32 @@ final class TermsBounds {
                 }
             }
         });
+        Sentence.holds("Terms 1", sentence, "the last CELL there: it comes to each corner", () -> {
+            // By z 1, 2, 4, 5 the WAY of one of the CATTLE alone is 0, 1, 2, 3.
+            int[] z = {1, 5, 1, 2, 4, 5, 4, 2};
+            int[] from = {8, 1, 15, 6, 48, 57, 55, 62};
+            int[] to = {0, 0, 7, 7, 56, 56, 63, 63};
+            for (int i = 0; i < 8; i++) {
+                WalkFences x = Given.cattle(from[i]);
+                x.seed(z[i]);
+                x.loose(1);
+                Due.is(x.cowIs(0, 0), to[i]);
+            }
+        });
+        Sentence.holds("Terms 1", sentence, "a CELL with SALT, WATER, a POST and another one there is a CELL, too", () -> {
+            WalkFences x = Given.walking(60, 0, 28);
+            x.cow(27);
+            x.lay(0, 28, 1);
+            x.lay(1, 28, 1);
+            // By z 2 the one alone goes right; by z 3 the second of six does.
+            x.seed(2);
+            x.loose(1);
+            Due.is(x.cowIs(0, 0), 28);
+            WalkFences y = Given.cattle(28, 27, 28, 28, 28, 28);
+            y.seed(3);
+            y.loose(1);
+            Due.is(y.cowIs(1, 0), 28);
+        });
         Sentence.holds("Terms 1", sentence, "then a DAWN: SALT holds POSTS at once, and DAWN is 1 more", () -> {
             WalkFences x = Given.walking(0, 2, 40, 41);
             x.seed(0);

@@ -480,6 +480,9 @@ final class TextBounds {
             Due.is(x.law(1, 0, 0, 0), 2);
             Given.text(x, 0, "4+5");
             Due.is(x.law(0, 0, 0, 0), 9);
+            Given.text(x, 0, "!4");
+            Given.text(x, 0, "6");
+            Due.is(x.law(0, 0, 0, 0), 6);
         });
         Sentence.holds("promise 16", "BEYOND (THE TAPE stays).", "no such USE", () -> {
             WalkFences x = new WalkFences();

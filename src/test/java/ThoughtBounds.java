@@ -283,6 +283,10 @@ final class ThoughtBounds {
             WalkFences y = Given.walking(20, 1, 17, 24, 26, 34);
             areSalts(y, 28, 6, 37);
         });
+        Sentence.holds("promise 25", sentence, "of a FENCE of 8 POSTS, the last of which is to be held", () -> {
+            areSalts(Given.walking(0, 1, 0, 1, 2, 3, 20, 26, 28, 36), 28, 1, 21, 37);
+            Due.is(Given.walking(0, 1, 0, 1, 2, 3, 20, 27, 28, 36).salts(0, 28, 1, -1), Due.NONE);
+        });
         Sentence.holds("promise 25", sentence, "-1 where there is none such: of none, of one, of two", () -> {
             areSalts(Given.walking(0, 1, 20, 27, 29, 36), 28, 0);
             areSalts(Given.walking(0, 1, 20, 26, 28, 35), 28, 1, 21);
@@ -348,6 +352,14 @@ final class ThoughtBounds {
             x.cow(3);
             Due.is(x.way(0, 10), 1);
             Due.is(x.way(1, 11), 2);
+        });
+        Sentence.holds("Terms 3", sentence, "SALT, WATER and others of the CATTLE do not keep it", () -> {
+            WalkFences x = Given.cattle(0, 1, 8);
+            for (int cell : new int[] {0, 1, 8}) {
+                x.lay(0, cell, 1);
+                x.lay(1, cell, 1);
+            }
+            Due.is(x.way(0, 9), 2);
         });
         Sentence.holds("Terms 3", sentence, "it stays where a POST comes, and goes on from there", () -> {
             WalkFences x = new WalkFences();

@@ -8,7 +8,6 @@ final class ThoughtTest {
         Due.test("promise 23, then", ThoughtTest::then);
         Due.test("promise 23, then is held and by texts", ThoughtTest::thenHeld);
         Due.test("promise 24, first", ThoughtTest::first);
-        Due.test("promise 24, first by 60", ThoughtTest::firstBySixty);
         Due.test("promise 25, salts", ThoughtTest::salts);
         Due.test("promise 25, salts, two CELLS", ThoughtTest::saltsTwo);
         Due.test("promise 25, salts, wherever", ThoughtTest::saltsAnywhere);
@@ -16,10 +15,8 @@ final class ThoughtTest {
         Due.test("promise 25, salts, beyond", ThoughtTest::saltsBeyond);
         Due.test("promise 26, way", ThoughtTest::way);
         Due.test("promise 26, way behind posts", ThoughtTest::wayBehindPosts);
-        Due.test("promise 26, way by 60", ThoughtTest::wayBySixty);
         Due.test("promise 27, odds", ThoughtTest::odds);
         Due.test("promise 28, fits", ThoughtTest::fits);
-        Due.test("promise 28, fits by 60", ThoughtTest::fitsBySixty);
         Due.test("promises 22 to 28, thought changes nothing", ThoughtTest::nothingChanges);
     }
 
@@ -112,21 +109,6 @@ final class ThoughtTest {
         Due.is(x.first(20, 0), 5);
         Due.is(x.first(20, 1), 1);
         Due.is(x.fence(0, 0), Due.FULL);
-    }
-
-    private static void firstBySixty() {
-        for (int dawn = 0; dawn < 4; dawn++) {
-            WalkFences x = Given.spiral(dawn);
-            // Three more POSTS, which SALT holds for ever, wait for the fourth to come above 36.
-            for (int cell : new int[] {35, 37, 44}) {
-                x.post(0, cell);
-            }
-            for (int cell : new int[] {27, 29, 34, 36, 38, 43, 45, 52}) {
-                x.lay(0, cell, 1);
-            }
-            Due.is(x.first(36, 0), dawn == 0 ? Due.NONE : 61 - dawn);
-            Due.is(x.first(36, 1), dawn == 0 ? Due.NONE : 0);
-        }
     }
 
     private static void salts() {
@@ -312,15 +294,6 @@ final class ThoughtTest {
         Due.is(y.way(1, 11), 2);
     }
 
-    private static void wayBySixty() {
-        for (int dawn = 2; dawn < 6; dawn++) {
-            WalkFences x = Given.longWay(dawn);
-            Due.is(x.way(0, 1), 31 - dawn);
-            Due.is(x.way(0, 49), 63 - dawn > 60 ? Due.NONE : 63 - dawn);
-            Due.is(x.way(0, 48), 64 - dawn > 60 ? Due.NONE : 64 - dawn);
-        }
-    }
-
     private static void odds() {
         WalkFences x = new WalkFences();
         Due.is(x.odds(0), 0);
@@ -397,14 +370,6 @@ final class ThoughtTest {
         Due.is(x.fits(3, 0), 0);
         Given.sheet(x, 3, 16, 265, 273);
         Due.is(x.fits(3, 0), Due.NONE);
-    }
-
-    private static void fitsBySixty() {
-        for (int dawn = 2; dawn < 5; dawn++) {
-            WalkFences x = Given.spiral(dawn);
-            Given.sheet(x, 0, 8, 44);
-            Due.is(x.fits(0, 0), dawn == 2 ? Due.NONE : 63 - dawn);
-        }
     }
 
     private static void nothingChanges() {

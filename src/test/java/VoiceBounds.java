@@ -131,6 +131,9 @@ final class VoiceBounds {
             Due.is(says(30, 0, SPROUTS, MIN), MIN);
             Due.is(says(30, 0, SPROUTS, MAX), MAX - 1);
             Due.is(says(39, 0, SPROUTS, MIN), MIN - 9);
+            WalkFences x = Given.walking(30, 0);
+            x.voice(0, SPROUTS, 1);
+            traceIs(x, 40, 12, 11, 10);
         });
     }
 
@@ -284,16 +287,16 @@ final class VoiceBounds {
                 Due.each(Due.PARTED, says(10 * kind, 0, PARTS, 5), says(10 * kind + 3, 3, PARTS, 5));
             }
         });
-        Sentence.holds("promise 29", "PARTED.", "it is told once, changes THE TRACE alone, and the next is not PARTED", () -> {
-            WalkFences x = Given.walking(11, 3, 9);
-            x.become(0, 10);
+        Sentence.holds("promise 29", "PARTED.", "it is told each time, changes THE TRACE alone, and the next is not PARTED", () -> {
+            WalkFences x = Given.walking(10, 3, 9);
             Due.is(x.voice(0, PARTS, 5), Due.PARTED);
             Due.is(x.told(6), 1);
             Due.each(0, x.told(1), x.count(2), x.fenceIs(0, 4));
+            Due.is(x.voice(0, SINGS, 5), 1);
+            Due.is(x.voice(0, PARTS, 5), Due.PARTED);
             x.become(0, 11);
             Due.is(x.voice(0, PARTS, 5), -1);
-            Due.is(x.voice(0, SINGS, 5), 1);
-            Due.is(x.told(6), 1);
+            Due.is(x.told(6), 2);
         });
         Sentence.holds("promise 29", "BEYOND. PARTED.", "BEYOND is asked first", () -> {
             WalkFences x = Given.fences(1);
