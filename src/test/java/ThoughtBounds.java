@@ -258,6 +258,12 @@ final class ThoughtBounds {
             WalkFences x = Given.walking(0, 1, 19, 24, 26, 33);
             areSalts(x, 27, 2, 20);
         });
+        Sentence.holds("Terms 3", sentence, "POSTS HEAD by the DAWN of each move, from the first on", () -> {
+            // At DAWN 0 they go right, at 1 down: the POST in 28 is held by 29, and then by SALT in 36.
+            WalkFences x = Given.walking(30, 1, 28, 17, 26, 10);
+            x.lay(0, 29, 1);
+            areSalts(x, 27, 2, 36);
+        });
         Sentence.holds("Terms 3", sentence, "of several sets the first by numbers", () -> {
             // SALT in 36 closes CELL 27 alone, SALT in 44 closes 27 and 35.
             areSalts(Given.walking(0, 1, 18, 25, 27, 33, 35, 43), 27, 1, 36);
