@@ -712,12 +712,18 @@ public final class WalkFences {
         int headsAt(int post, int dawn) {
             switch (kind) {
                 case LAGGING: return dawn % 2 == 1 ? -1 : heading;
-                case TURNER: return (heading + dawn / (m + 1)) % Ground.WAYS;
+                case TURNER: return (heading + turnsBy(dawn)) % Ground.WAYS;
                 case POLAR: return dawn % 4 >= 2 ? (heading + 2) % Ground.WAYS : heading;
                 case STILE: return post == 0 || dawn % 2 == 1 ? -1 : heading;
                 case HEDGE: return m == 9 ? heading : -1;
                 default: return heading;
             }
+        }
+
+        /** How often a TURNER has turned by a DAWN. */
+        private int turnsBy(int dawn) {
+            int between = m + 1;
+            return between > 0 ? dawn / between : 0;
         }
 
         void postsMove(long salt, long water, int dawn) {

@@ -1,4 +1,4 @@
-/** Runs every test of the project; the arguments name the source of the class, and the document. */
+/** Runs every test of the project; the arguments name the source of the class, the document, and README.md. */
 public final class AllTests {
     private static final long MOST_MILLIS = 600_000;
 
@@ -22,6 +22,7 @@ public final class AllTests {
         VoiceBounds.all();
         TellingBounds.all();
         Sentence.all(args.length > 1 ? args[1] : "../shared/DOC.md");
+        ReadmeTest.all(args.length > 2 ? args[2] : "README.md", args.length > 1 ? args[1] : "../shared/DOC.md");
         LanguageTest.all(args.length > 0 ? args[0] : "src/main/java/WalkFences.java");
         if (!Due.allPassed()) {
             System.exit(1);

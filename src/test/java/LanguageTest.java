@@ -33,6 +33,7 @@ final class LanguageTest {
         Due.test("rule 2, classes inside", LanguageTest::inside);
         Due.test("rule 5, static fields", LanguageTest::statics);
         Due.test("rules 2, 4, 6, 13, words", () -> words(text));
+        Due.test("rule 7, divisors", () -> divisors(text));
         Due.test("rule 11, sizes", () -> sizes(text));
         Due.test("rule 12, few objects", LanguageTest::fewObjects);
     }
@@ -132,6 +133,23 @@ final class LanguageTest {
         }
         if (Pattern.compile("static\\s*\\{").matcher(bare).find()) {
             Due.fail("a static initialiser stands in the class");
+        }
+    }
+
+    /** A divisor is a number, a constant (in capitals), or has been looked at on its line or the two ahead of it. */
+    private static void divisors(String text) {
+        String[] lines = bare(text).split("\n");
+        for (int i = 0; i < lines.length; i++) {
+            Matcher divided = Pattern.compile("[/%]=? *(\\([^)]*\\)|[\\w.]+)").matcher(lines[i]);
+            while (divided.find()) {
+                String by = divided.group(1);
+                String ahead = String.join(" ", List.of(lines).subList(Math.max(0, i - 2), i))
+                        + lines[i].substring(0, divided.start());
+                boolean looked = Pattern.compile("\\b" + Pattern.quote(by) + " (==|!=|>|<=) 0\\b").matcher(ahead).find();
+                if (!looked && !by.matches("[1-9]\\d*|(\\w+\\.)?[A-Z_]+")) {
+                    Due.fail("line of " + lines[i].trim() + ": the divisor " + by + " is not looked at");
+                }
+            }
         }
     }
 
